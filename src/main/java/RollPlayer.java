@@ -360,7 +360,7 @@ public final class RollPlayer {
     public int event(int k, int what) {
         if (k < 0 || !isIn(what, 0, 3)) return bad();
         if (!stage.keepsEvent(k)) return none();
-        return done(stage.events[4 * k + what]);
+        return done(stage.eventOf(k, what));
     }
 
     // ---- editing
@@ -379,7 +379,7 @@ public final class RollPlayer {
     public int join(int roll, int other) {
         Roll its = rollAt(roll);
         Roll from = rollAt(other);
-        if (its == null || from == null || its == from) return bad();
+        if (its == null || from == null || roll == other) return bad();
         if (stage.isPlaying()) return busy();
         if (!hasRoom(from.length(), from.elements(0, from.length()))) return full();
         its.insertCopies(from, 0, from.length(), its.length());
@@ -784,7 +784,8 @@ public final class RollPlayer {
 
         /** The k-th STRIP from any number on: their sum may be beyond an int. */
         Strip stripBeyond(int i, int k) {
-            return i > Integer.MAX_VALUE - k ? null : stripAt(i + k);
+            long place = (long) i + k;
+            return place >= 0 && place < list.size() ? list.get((int) place) : null;
         }
 
         boolean isWholeAt(int i) {
@@ -952,7 +953,7 @@ public final class RollPlayer {
 
         private static int timesWithin(Instrument sought, Instrument it, int depth) {
             if (it == null || depth > MOST_SIZE) return 0;
-            if (it == sought) return 1;
+            if (it.number == sought.number) return 1;
             int n = 0;
             for (int i = 0; i < it.memberCount; i++) {
                 n += timesWithin(sought, it.members[i], depth + 1);
@@ -1123,6 +1124,15 @@ public final class RollPlayer {
         }
     }
 
+    /** How PLAYING was: the row of a Stage then. */
+    private static final class Moment {
+        final int[] row;
+
+        Moment(int length) {
+            row = new int[Math.max(0, length)];
+        }
+    }
+
     /** PLAYING: all that back() gives back stands in one row, the latest such rows are kept. */
     private static final class Stage {
         // The first seven as at() numbers them.
@@ -1145,8 +1155,8 @@ public final class RollPlayer {
         static final int ANY_TRACK = -1;
 
         final int[] now;
-        // A ring of which the latest row is keptLast; its rows are made when first needed.
-        final int[][] kept;
+        // A ring of which the latest one is keptLast; they are made when first needed.
+        final Moment[] kept;
         int keptLast, keptCount;
         final int[] events;
         // null: nothing is PLAYED.
@@ -1156,7 +1166,7 @@ public final class RollPlayer {
         Stage() {
             now = new int[A_MOMENT];
             now[AT_HAND] = -1;
-            kept = new int[KEPT][];
+            kept = new Moment[KEPT];
             events = new int[AN_EVENT * MOST_EVENTS];
         }
 
@@ -1201,16 +1211,18 @@ public final class RollPlayer {
         boolean goOneTick(Organ organ) {
             if (played == null || wentInAll >= MOST_TICKS) return false;
             Strip strip = played.stripAt(now[AT_HAND]);
-            for (int place = now[AT_HAND] + 1; strip == null || now[OVER] >= strip.ticks; place++) {
+            for (int place = now[AT_HAND] + 1; place <= played.length(); place++) {
+                if (strip != null && now[OVER] < strip.ticks) break;
                 strip = played.stripAt(place);
-                if (strip == null || place >= MOST_STRIPS) {
-                    finishRoll(organ);
-                    return false;
-                }
+                if (strip == null) break;
                 beginStrip(strip, place, organ);
                 for (int k = 0; strip.ticks == 0 && k < strip.elements(); k++) {
                     doElement(strip, k, organ);
                 }
+            }
+            if (strip == null) {
+                finishRoll(organ);
+                return false;
             }
             doElement(strip, now[OVER], organ);
             now[OVER]++;
@@ -1371,8 +1383,13 @@ public final class RollPlayer {
             return k >= 0 && k < now[EVENTS] && k < MOST_EVENTS;
         }
 
+        int eventOf(int k, int what) {
+            if (!keepsEvent(k) || what < 0 || what >= AN_EVENT) return 0;
+            return events[AN_EVENT * k + what];
+        }
+
         int soundOf(int k, int what) {
-            if (k < 0 || k >= now[SOUNDING]) return 0;
+            if (k < 0 || k >= now[SOUNDING] || what < 0 || what >= A_SOUND) return 0;
             return now[SOUNDS + A_SOUND * k + what];
         }
 
@@ -1391,8 +1408,8 @@ public final class RollPlayer {
         private void keepMoment() {
             keptLast = (keptLast + 1) % KEPT;
             keptCount = Math.min(keptCount + 1, KEPT);
-            if (kept[keptLast] == null) kept[keptLast] = new int[A_MOMENT];
-            System.arraycopy(now, 0, kept[keptLast], 0, SOUNDS + A_SOUND * now[SOUNDING]);
+            if (kept[keptLast] == null) kept[keptLast] = new Moment(A_MOMENT);
+            System.arraycopy(now, 0, kept[keptLast].row, 0, SOUNDS + A_SOUND * now[SOUNDING]);
         }
 
         boolean keepsAgo(int n) {
@@ -1402,11 +1419,11 @@ public final class RollPlayer {
         void goBack(int n) {
             if (!keepsAgo(n)) return;
             int place = Math.floorMod(keptLast - n, KEPT);
-            int[] moment = kept[place];
-            if (moment == null) return;
+            Moment then = kept[place];
+            if (then == null) return;
             keptLast = place;
             keptCount -= n;
-            System.arraycopy(moment, 0, now, 0, SOUNDS + A_SOUND * moment[SOUNDING]);
+            System.arraycopy(then.row, 0, now, 0, SOUNDS + A_SOUND * then.row[SOUNDING]);
         }
     }
 }

@@ -129,6 +129,23 @@ final class EditingTest {
         Due.is(x.join(2, 0), 16);
         Due.is(x.join(2, 1), 32);
         Due.is(x.count(6), 8000);
+        // A roll of two, its first or its last having one too many.
+        x.tear(2, 31, 9 + 248);
+        x.roll();
+        x.roll();
+        x.strip(3, HOLES, 0, 1, 0);
+        x.strip(3, HOLES, 0, 0, 0);
+        Due.is(x.join(4, 3), 2);
+        Due.refused(x, x.join(4, 3), Due.FULL);
+        x.roll();
+        x.strip(5, HOLES, 0, 0, 0);
+        x.tear(4, 0, 9);
+        x.strip(5, HOLES, 0, 1, 0);
+        Due.refused(x, x.join(4, 5), Due.FULL);
+        x.lose(5, 1);
+        Due.is(x.join(4, 5), 4);
+        x.play(0);
+        Due.refused(x, x.join(4, 2), Due.BUSY);
 
         RollPlayer y = new RollPlayer();
         y.roll();
@@ -143,6 +160,14 @@ final class EditingTest {
         Due.refused(y, y.repeat(1, 0, 1), Due.FULL);
         Due.is(y.repeat(1, 0, 0), 200);
         Due.is(y.strips(1), 200);
+        // With 400 strips there is room for bytes.
+        Due.is(y, y.move(0, 0, 8, 1, 0), 8, 0);
+        y.lose(1, 0);
+        Due.is(y, y.mend(1, 0, 0), 0, 0);
+        y.play(0);
+        Due.refused(y, y.join(1, 2), Due.BUSY);
+        Due.refused(y, y.repeat(1, 0, 1), Due.BUSY);
+        Due.refused(y, y.repeat(1, 0, 9), Due.BAD);
     }
 
     private static void promise41() {
@@ -191,8 +216,12 @@ final class EditingTest {
         Due.refused(y, y.repeat(0, 31, 1), Due.FULL);
         Due.is(y.strips(0), 33);
         y.lose(0, 31);
-        Due.is(y.repeat(0, 32, 1), 34);
+        // Only those that are copied need room, not the next one.
+        Due.is(y.repeat(0, 31, 1), 34);
+        Due.is(y.repeat(0, 33, 1), 35);
         Due.is(y.count(6), 8000);
+        Due.is(y.repeat(0, 31, 2), 37);
+        Due.refused(y, y.repeat(0, 32, 4), Due.FULL);
     }
 
     private static void promise42() {
@@ -499,6 +528,14 @@ final class EditingTest {
         y.tear(0, 30, 9);
         Due.is(y, y.mend(0, 31, 0), 0, 0);
         Due.is(y.count(6), 8000);
+        // What it has itself makes room for what comes.
+        y.damage(0, 31, 8, 1);
+        Due.is(y, y.mend(0, 31, 0), 0, 0);
+        Due.is(y.count(6), 8000);
+        y.tear(0, 31, 9 + 4 * 255);
+        y.strip(0, TEMPO, 7, 1, 0);
+        Due.refused(y, y.mend(0, 31, 0), Due.FULL);
+        Due.is(y.told(0, 31, 3), 255);
     }
 
     private static void promise47() {
@@ -513,10 +550,12 @@ final class EditingTest {
         Due.is(x.equal(0, 1), 0);
         x.punch(0, 2, 3, 1);
         Due.is(x.equal(0, 1), 1);
-        x.damage(0, 0, 8, 1);
-        Due.is(x.equal(0, 1), 0);
-        Due.is(x.equal(0, 0), 1);
-        x.damage(0, 0, 8, 1);
+        for (int i = 0; i < 11; i++) {
+            x.damage(0, 0, i, 1);
+            Due.is(x.equal(0, 1), 0);
+            Due.is(x.equal(0, 0), 1);
+            x.damage(0, 0, i, 1);
+        }
         x.lose(1, 1);
         Due.is(x.equal(0, 1), 0);
         Due.is(x.equal(1, 0), 0);

@@ -10,6 +10,7 @@ final class InstrumentsTest {
         promise18();
         promise19();
         promise20();
+        promise20AtFirst();
         promise21();
         promise22();
         promise23();
@@ -117,6 +118,8 @@ final class InstrumentsTest {
         Due.refused(x, x.chest(0, 201), Due.FULL);
         Due.refused(x, x.chest(0, Due.MAX), Due.FULL);
         Due.is(x, x.chest(0, 0), 0, 0);
+        x.instrument(PIPE);
+        Due.refused(x, x.place(0, 0, 0), Due.TORN);
         Due.is(x.chest(7, 199), 1);
         Due.refused(x, x.chest(0, 2), Due.FULL);
         Due.is(x.chest(0, 1), 2);
@@ -198,6 +201,7 @@ final class InstrumentsTest {
         x.play(0);
         Due.refused(x, x.wire(2, -1, 0), Due.BUSY);
         Due.refused(x, x.wire(8, -1, 0), Due.BAD);
+        Due.refused(x, x.wire(0, 1, 0), Due.BAD);
         x.tick(1);
         Due.is(x.count(4), 2);
         Due.is(x.sounding(0, 1), 2);
@@ -208,6 +212,20 @@ final class InstrumentsTest {
         Due.is(x.event(1, 3), 2);
         Due.is(x.event(2, 2), 1);
         Due.is(x.event(2, 3), 2);
+    }
+
+    /** No track has a wire at first. */
+    private static void promise20AtFirst() {
+        RollPlayer x = seven();
+        x.chest(7, 1);
+        x.place(0, 0, PIPE);
+        x.roll();
+        x.strip(0, 0, 0, 1, 1);
+        x.punch(0, 0, 0, 255);
+        x.play(0);
+        x.tick(1);
+        Due.is(x.count(3), 1);
+        for (int t = 0; t < 8; t++) Due.is(x.open(t), 0);
     }
 
     private static void promise21() {
@@ -246,6 +264,16 @@ final class InstrumentsTest {
         x.tick(3);
         x.halt();
         Due.is(x.spoil(PIPE, 0), 3);
+
+        // What is not to spoil stays so, however often it is opened.
+        for (int kind = 0; kind < 7; kind++) {
+            x.spoil(kind, 0);
+            x.place(0, 0, kind);
+            x.play(0);
+            Due.is(x.tick(500), 6);
+            Due.is(x.times(kind, 0), 3);
+            Due.is(x.spoil(kind, 0), 0);
+        }
     }
 
     private static void promise22() {

@@ -14,6 +14,8 @@ final class PlayingTest {
         promise28Holes();
         promise28Couplers();
         promise28SpoiltCouplers();
+        promise28StopsOfChests();
+        promise28AsManyAsCan();
         promise29();
         promise30();
         promise30Far();
@@ -421,6 +423,92 @@ final class PlayingTest {
         Due.is(x.times(7, 0), 0);
         event(x, 6, FAILED, 1, 6, 10);
         x.halt();
+    }
+
+    private static void promise28StopsOfChests() {
+        for (int c = 0; c < 16; c++) {
+            RollPlayer x = new RollPlayer();
+            for (int i = 0; i < 16; i++) x.chest(7, 1);
+            x.instrument(PIPE);
+            x.place(c, 0, PIPE);
+            x.wire(3, c, 0);
+            x.roll();
+            strip(x, STOPS, 0, 'a' + c);
+            strip(x, HOLES, 2, 8, 0);
+            strip(x, STOPS, 0, 'A' + c);
+            for (int i = 0; i < 16; i++) strip(x, STOPS, 0, i == c ? '?' : 'a' + i);
+            strip(x, HOLES, 1, 8);
+            x.play(0);
+            x.tick(1);
+            sounds(x);
+            Due.is(x.open(3), 0);
+            x.tick(2);
+            sounds(x, PIPE);
+        }
+    }
+
+    /** As many as can sound: of each track a coupler of the size 40, in a chain as deep. */
+    private static void promise28AsManyAsCan() {
+        RollPlayer x = new RollPlayer();
+        x.roll();
+        x.chest(6, 2);
+        for (int i = 0; i < 40; i++) x.instrument(COUPLER);
+        for (int i = 0; i < 39; i++) Due.is(x.couple(i, i + 1), 1);
+        for (int i = 40; i < 43; i++) x.instrument(COUPLER);
+        x.instrument(BELL);
+        for (int i = 0; i < 8; i++) x.couple(41, 43);
+        for (int i = 0; i < 4; i++) x.couple(40, 41);
+        for (int i = 0; i < 3; i++) Due.is(x.couple(40, 43), 5 + i);
+        x.place(0, 0, 0);
+        x.place(0, 1, 40);
+        for (int t = 0; t < 8; t++) x.wire(t, 0, t % 2);
+        strip(x, HOLES, 3, 0xff, 0x7e, 0xff);
+        x.play(0);
+        x.tick(1);
+        Due.is(x.count(4), 320);
+        for (int t = 0; t < 8; t++) Due.is(x.open(t), 40);
+        for (int k = 0; k < 40; k++) {
+            Due.is(x.sounding(k, 0), k);
+            Due.is(x.sounding(k, 1), 0);
+            Due.is(x.sounding(280 + k, 1), 7);
+        }
+        Due.is(x.sounding(319, 0), 43);
+        Due.is(x.count(3), 321);
+        x.tick(1);
+        Due.is(x.count(4), 240);
+        Due.is(x.sounding(0, 1), 1);
+        Due.is(x.sounding(0, 0), 40);
+        Due.is(x.sounding(239, 1), 6);
+        Due.is(x.sounding(239, 0), 39);
+        event(x, 322, ENDED, 1, 39 - 1, 0);
+        event(x, 321, ENDED, 1, 39, 0);
+        x.tick(1);
+        Due.is(x.count(4), 320);
+        Due.is(x.sounding(319, 0), 43);
+        Due.is(x.sounding(319, 1), 7);
+        Due.is(x.sounding(319, 2), 1);
+        Due.is(x.sounding(0, 2), 3);
+        Due.is(x.back(1), 2);
+        Due.is(x.count(4), 240);
+        Due.is(x.back(1), 1);
+        Due.is(x.count(4), 320);
+        Due.is(x.sounding(319, 0), 43);
+        Due.is(x.sounding(319, 1), 7);
+        Due.is(x.halt(), 320);
+        Due.is(x.times(43, 0), 4 * 35);
+        Due.is(x.times(43, 1), 4 * 35);
+
+        // The deepest one fails: all that came are ended.
+        x.spoil(39, 1);
+        x.play(0);
+        x.tick(1);
+        Due.is(x.count(4), 280);
+        Due.is(x.open(0), 0);
+        event(x, 1, OPENED, 0, 0, 0);
+        event(x, 39, OPENED, 0, 38, 0);
+        event(x, 40, ENDED, 0, 38, 0);
+        event(x, 78, ENDED, 0, 0, 0);
+        event(x, 79, FAILED, 0, 0, 10);
     }
 
     private static void promise29() {

@@ -134,6 +134,9 @@ final class StripsTest {
         Due.refused(y, y.strip(0, 0, 0, 0, 0), Due.FULL);
         Due.refused(y, y.strip(0, 0, 0, -1, 0), Due.FULL);
         Due.is(y.strips(0), 200);
+        y.play(0);
+        Due.refused(y, y.strip(0, 0, 0, 0, 0), Due.BUSY);
+        Due.refused(y, y.strip(0, 4, 0, 0, 0), Due.BAD);
     }
 
     private static void promise4() {
@@ -204,6 +207,7 @@ final class StripsTest {
         Due.refused(x, x.seal(0, 4), Due.BAD);
         x.play(0);
         Due.refused(x, x.seal(0, 3), Due.BUSY);
+        Due.refused(x, x.seal(0, 4), Due.BAD);
     }
 
     private static void promise6() {
@@ -223,6 +227,8 @@ final class StripsTest {
         Due.refused(x, x.lose(1, 0), Due.BAD);
         x.play(0);
         Due.refused(x, x.lose(0, 2), Due.BUSY);
+        Due.refused(x, x.lose(0, 1), Due.BUSY);
+        Due.refused(x, x.lose(0, 4), Due.BAD);
         Due.is(x.read(0, 2), 3);
     }
 
@@ -271,6 +277,7 @@ final class StripsTest {
         x.play(0);
         Due.refused(x, x.damage(0, 3, 0, 1), Due.BUSY);
         Due.refused(x, x.damage(0, 0, 0, 1), Due.BUSY);
+        Due.refused(x, x.damage(0, 4, 0, 1), Due.BAD);
         Due.is(x.byteOf(0, 0, 0), 0);
     }
 
