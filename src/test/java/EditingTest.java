@@ -268,6 +268,12 @@ final class EditingTest {
         sameBytes(x, 1, 0, 0, 0);
         Due.refused(x, x.byteOf(1, 0, 4), Due.TORN);
         Due.is(x, x.move(0, 1, 1, 0, 1), 1, 0);
+        for (int n = 2; n >= 0; n--) {
+            x.tear(0, 0, n);
+            if (n > 0) x.damage(0, 0, n - 1, 0x40);
+            Due.is(x.move(0, 0, 1, 1, 0), 1);
+            sameBytes(x, 1, 0, 0, 0);
+        }
 
         // In one roll: one by one, so that what came goes on.
         RollPlayer y = new RollPlayer();

@@ -42,6 +42,7 @@ final class InstrumentsTest {
         Due.refused(x, x.instrument(0), Due.FULL);
         Due.refused(x, x.instrument(7), Due.BAD);
         Due.is(x.count(1), 60);
+        Due.refused(x, x.mute(60), Due.BAD);
         startPlaying(x);
         Due.refused(x, x.instrument(0), Due.BUSY);
         Due.refused(x, x.instrument(7), Due.BAD);
@@ -56,6 +57,7 @@ final class InstrumentsTest {
         Due.is(x.couple(COUPLER, PIPE), 8);
         Due.refused(x, x.couple(COUPLER, PIPE), Due.FULL);
         Due.is(x.members(COUPLER), 8);
+        Due.is(x.frequency(COUPLER), Double.doubleToLongBits(440.25));
         for (int kind = 0; kind < 6; kind++) {
             Due.refused(x, x.couple(kind, 7), Due.KIND);
             Due.refused(x, x.couple(kind, kind), Due.BAD);
@@ -129,6 +131,7 @@ final class InstrumentsTest {
         Due.refused(x, x.chest(0, 0), Due.FULL);
         Due.refused(x, x.chest(0, -1), Due.FULL);
         Due.is(x.count(2), 16);
+        Due.refused(x, x.place(16, 0, 0), Due.BAD);
         startPlaying(x);
         Due.refused(x, x.chest(0, 0), Due.BUSY);
         Due.refused(x, x.chest(0, -1), Due.BUSY);

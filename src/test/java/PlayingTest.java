@@ -707,6 +707,7 @@ final class PlayingTest {
         strip(x, LEVELS, 0, 1 << 12 | 100, 4 << 12 | 22, 5 << 12 | 22);
         strip(x, HOLES, 9, 0x7f);
         x.couple(COUPLER, BELL);
+        x.spoil(PIPE, 9);
         x.play(0);
         x.tick(1);
         sounds(x, PIPE, REED, BASS, DRUM, PLUCKED, BELL, COUPLER, BELL);
