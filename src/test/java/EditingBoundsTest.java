@@ -63,6 +63,9 @@ final class EditingBoundsTest extends Bounds {
         refused(BAD, Player::new, x -> x.cut(0, 0));
         let(19, () -> rolls(19), x -> x.cut(18, 0));
         refused(FULL, () -> rolls(20), x -> x.cut(0, 0));
+        Make all = and(() -> rolls(20), x -> x.strip(0, TEMPO, 1, 2, 3));
+        refused(FULL, all, x -> x.cut(0, 0));
+        refused(BUSY, playing(all), x -> x.cut(0, 0));
         refused(BAD, () -> rolls(20), x -> x.cut(0, 1));
         refused(BUSY, playing(() -> rolls(20)), x -> x.cut(0, 0));
         refused(BUSY, BUSY_FOUR, x -> x.cut(0, 4));
@@ -70,25 +73,28 @@ final class EditingBoundsTest extends Bounds {
         refused(BAD, BUSY_FOUR, x -> x.cut(1, 0));
     }
 
-    /** Roll 1 with a whole strip, a lost one, one without bytes, a torn and a damaged one. */
-    private static Player five() {
+    /** Roll 1 with a whole strip, a lost one, one without bytes, two torn ones and a damaged one. */
+    private static Player six() {
         Player x = and(FOUR, y -> y.roll()).one();
-        for (int i = 0; i < 5; i++) x.strip(1, i % 4, 30000, 3, 256);
+        for (int i = 0; i < 6; i++) x.strip(1, i % 4, 30000, 3, 256);
         x.lose(1, 1);
         x.tear(1, 2, 0);
         x.tear(1, 3, 8);
         x.damage(1, 4, 0, 0x80);
+        x.tear(1, 5, 1);
         return x;
     }
 
     private static void promise40() {
         says("Copies of all STRIPS of another ROLL come behind a ROLL's (BYTES and LIST alike; LOST ones, too): how many it has.");
-        Player x = let(9, EditingBoundsTest::five, y -> y.join(0, 1));
+        Player x = let(10, EditingBoundsTest::six, y -> y.join(0, 1));
         x.cut(0, 4);
         is(x, x.equal(1, 2), 1, 0);
         is(x, x.digest(1), x.digest(2));
         is(x, x.read(2, 1), LOST, 1);
         is(x, x.byteOf(2, 2, 0), TORN, 2);
+        is(x, x.byteOf(2, 5, 0), 1, 0);
+        is(x, x.byteOf(2, 5, 1), TORN, 2);
         let(4, and(FOUR, y -> y.roll()), y -> y.join(0, 1));
         let(4, and(FOUR, y -> y.roll()), y -> y.join(1, 0));
         let(0, () -> rolls(2), y -> y.join(1, 0));
@@ -145,8 +151,8 @@ final class EditingBoundsTest extends Bounds {
             int at = i;
             numbers(let(3, () -> holes(3), x -> x.repeat(0, at, 0)), 0, 100, 101, 102);
         }
-        Player x = let(10, EditingBoundsTest::five, y -> y.repeat(1, 0, 5));
-        x.cut(1, 5);
+        Player x = let(12, EditingBoundsTest::six, y -> y.repeat(1, 0, 6));
+        x.cut(1, 6);
         is(x, x.equal(1, 2), 1, 0);
         says("BAD: n is not 0 .. 8, or these are not there; BUSY, FULL.");
         within(0, 8, () -> holes(9), (y, v) -> y.repeat(0, 0, v));
@@ -220,6 +226,15 @@ final class EditingBoundsTest extends Bounds {
         long digest = self.digest(0);
         is(self, self.move(0, 0, 8, 0, 0), 8, 0);
         is(self, self.digest(0), digest);
+        // Of none of its bytes, of one, of all but the last of its head, of its head alone.
+        for (int bytes : new int[] { 0, 1, 8, 9 }) {
+            Player x = kinds(LEVELS, LEVELS);
+            for (int i = 0; i < 9; i++) x.damage(0, 0, i, 0x40 + i);
+            x.tear(0, 0, bytes);
+            is(x, x.move(0, 0, 1, 0, 1), 1, 0);
+            for (int i = 0; i <= bytes; i++) is(x, x.byteOf(0, 1, i), x.byteOf(0, 0, i));
+            is(x, x.byteOf(0, 1, bytes), TORN, 2);
+        }
         // A copy: what is done to one is not done to the other.
         back.punch(0, 0, 0, 0x55);
         is(back, back.byteOf(0, 1, 9) == 0x55 ? 1 : 0, 0);
@@ -302,6 +317,8 @@ final class EditingBoundsTest extends Bounds {
         Make less = and(and(() -> elements(8000), y -> y.tear(0, 4, 9)), y -> y.strip(0, HOLES, 0, 256, 0));
         moved(2, 0, less, y -> y.move(0, 4, 2, 0, 30));
         refused(0, FULL, less, y -> y.move(0, 3, 2, 0, 31));
+        // All strips are there: their bytes can be others all the same.
+        moved(8, 0, () -> strips(400), y -> y.move(0, 0, 8, 1, 192));
         // Another kind is told ahead of it, and lost, and not there.
         Make other = and(and(() -> elements(8000), y -> y.strip(0, TEMPO, 0, 0, 0)), y -> y.lose(0, 31));
         refused(0, 5, other, y -> y.move(0, 0, 1, 0, 32));
@@ -572,6 +589,8 @@ final class EditingBoundsTest extends Bounds {
         // Its own elements count no more: 256 in place of 256.
         let(1, and(() -> elements(8000), y -> y.damage(0, 0, 8, 1)), y -> y.mend(0, 0, 0));
         let(1, and(and(() -> elements(8000), y -> y.damage(0, 0, 3, 0xff)), y -> y.damage(0, 31, 8, 1)), y -> y.mend(0, 0, 0));
+        // All strips are there: their bytes can be others all the same.
+        let(0, and(() -> strips(400), y -> y.lose(1, 199)), y -> y.mend(1, 199, 0));
         // Where there is none it is not full.
         refused(NONE, and(and(() -> elements(7936), y -> y.strip(0, TEMPO, 0, 64, 0)), y -> y.damage(0, 32, 8, 1)),
             y -> y.mend(0, 32, 0));
@@ -581,8 +600,8 @@ final class EditingBoundsTest extends Bounds {
         says("Whether two ROLLS have as many STRIPS, of the same KINDS, NUMBERS, TICKS and BYTES, in order (LOST where the other is): 1, 0. BAD.");
         let(1, () -> rolls(2), x -> x.equal(0, 1));
         let(1, () -> rolls(1), x -> x.equal(0, 0));
-        let(1, EditingBoundsTest::five, x -> x.equal(1, 1));
-        Make same = and(and(EditingBoundsTest::five, x -> x.cut(0, 0)), x -> x.join(0, 1));
+        let(1, EditingBoundsTest::six, x -> x.equal(1, 1));
+        Make same = and(and(EditingBoundsTest::six, x -> x.cut(0, 0)), x -> x.join(0, 1));
         let(1, same, x -> x.equal(0, 1));
         let(1, same, x -> x.equal(1, 0));
         // One more, one fewer; one byte, the first or the last; no bytes and lost.

@@ -61,6 +61,12 @@ final class InstrumentsBoundsTest extends Bounds {
         says("CHESTS (16 at most; 200 PLACES in all) of a KIND 0 .. 6, or 7: any");
         let(15, () -> chests(15, 0), y -> y.chest(7, 0));
         refused(FULL, () -> chests(16, 0), y -> y.chest(7, 0));
+        for (int c : new int[] { -1, 16, MIN, MAX }) {
+            refused(BAD, () -> chests(16, 1), y -> y.place(c, 0, 0));
+            if (c != -1) refused(BAD, () -> chests(16, 1), y -> y.wire(0, c, 0));
+        }
+        let(1, () -> chests(16, 1), y -> y.place(15, 0, 0));
+        let(1, () -> chests(16, 1), y -> y.wire(0, 15, 0));
         let(0, () -> chests(0, 0), y -> y.chest(7, 200));
         refused(FULL, () -> chests(0, 0), y -> y.chest(7, 201));
         let(1, () -> chests(1, 199), y -> y.chest(7, 1));
@@ -424,6 +430,9 @@ final class InstrumentsBoundsTest extends Bounds {
         let(1, SEVEN, x -> x.wire(0, -1, 0));
         refused(BUSY, playing(two), x -> x.wire(0, -1, 0));
         refused(BUSY, playing(two), x -> x.wire(0, 1, 0));
+        refused(BUSY, playing(two), x -> x.wire(0, 0, 1));
+        refused(BAD, two, x -> x.wire(0, 2, 1));
+        refused(BAD, two, x -> x.wire(0, -2, 1));
         refused(BAD, playing(two), x -> x.wire(8, 1, 0));
         refused(BAD, playing(two), x -> x.wire(0, 2, 0));
     }

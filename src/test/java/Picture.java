@@ -10,14 +10,14 @@ final class Picture {
         this.x = x;
     }
 
-    static String of(Player x) {
+    static String of(Player x, boolean goesBack) {
         Picture it = new Picture(x);
         it.counts();
         it.rolls();
         it.instruments();
         it.stage();
         it.fallen();
-        it.goOn();
+        it.goOn(goesBack);
         return it.text.toString();
     }
 
@@ -72,12 +72,10 @@ final class Picture {
         }
     }
 
-    private void goOn() {
-        if (x.at(7) == 1) {
-            tell("back", x.back(2), x.back(1), x.back(0));
-            tell("tick", x.tick(3), x.at(0), x.at(2), x.at(4), x.at(5), x.count(3));
-            tell("halt", x.halt());
-        }
+    private void goOn(boolean goesBack) {
+        if (goesBack) tell("back", x.back(2), x.back(1), x.back(0));
+        tell("tick", x.tick(3), x.at(0), x.at(2), x.at(4), x.at(5), x.count(3));
+        tell("halt", x.halt());
         openAll();
         int n = x.count(1);
         for (int i = 0; i < n && i < 9; i++) tell("spoil", x.spoil(i, 0));

@@ -109,6 +109,7 @@ final class PlayingBoundsTest extends Bounds {
         says("AIR: PIPE: 3 and how many STOPS are drawn; BASS: 2 times as a PIPE.");
         for (int drawn : new int[] { 0, 1, 15, 16 }) {
             Player x = organ();
+            x.spoil(PIPE, 900);
             int[] away = new int[16 - drawn];
             for (int i = 0; i < away.length; i++) away[i] = 'p' - i;
             // The holes open first: a stop that is not drawn takes the air of what sounds, not the sound.
@@ -244,7 +245,11 @@ final class PlayingBoundsTest extends Bounds {
         is(x, x.times(0, 0), 1023);
         is(x, x.times(0, 1), 1023);
         is(x, x.spoil(0, 0), 0);
-        // Not at all.
+        // Not at all, whichever it is.
+        Player all = SOUNDING.one();
+        all.tick(250);
+        all.halt();
+        for (int i = 0; i < 7; i++) is(all, all.spoil(i, 0), 0, 0);
         Player y = pipes(0, 0);
         y.tick(1);
         is(y, y.times(0, 0), 1024);
@@ -703,6 +708,9 @@ final class PlayingBoundsTest extends Bounds {
         for (int[] e : all) {
             Player x = played(1, LEVELS, e[0]).one();
             for (int track = 0; track < 8; track++) is(x, x.level(track), e[1]);
+            // Nothing beside them.
+            for (int track = 0; track < 8; track++) is(x, x.open(track), NONE, 0);
+            for (int chest = 0; chest < 16; chest++) is(x, x.stop(chest), 1);
         }
     }
 
@@ -1134,6 +1142,10 @@ final class PlayingBoundsTest extends Bounds {
         int[] then = { 2, 2, 1, 5, 1, 3, 0, 0, 5 };
         int[] before = { 0, 0, 0, 0, NONE, 0, 0, 0, 0 };
         int[] begun = { 24, 0, 0, 0, NONE, 0, 0, 1, 5 };
+        let(1, SOUNDING, x -> x.at(6));
+        let(1, SOUNDING, x -> x.at(7));
+        let(0, SOUNDING, x -> x.at(4));
+        let(2, SOUNDING, x -> x.at(5));
         Player x = over.one();
         for (int what = 0; what < 9; what++) {
             int w = what;

