@@ -317,7 +317,9 @@ final class EditingTest {
         Due.is(x, x.move(0, 1, 1, 0, 33), 1, 0);
         Due.is(x.told(0, 33, 3), 256);
         Due.is(x.count(6), 7999);
-        sameBytes(x, 0, 33, 0, 1);
+        Due.is(x.sum(0, 33), x.sum(0, 1));
+        Due.is(x.head(0, 33, 1), 1);
+        Due.is(x.read(0, 33), 256);
         // The second one has no room.
         x.tear(0, 31, 9 + 4 * 30);
         x.tear(0, 32, 9 + 4 * 30);

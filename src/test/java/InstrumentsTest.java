@@ -139,21 +139,23 @@ final class InstrumentsTest {
     }
 
     private static void promise19() {
-        RollPlayer x = seven();
         String[] takes = { "012", "12", "2", "3", "45", "5", "6", "0123456" };
         for (int kind = 0; kind < 8; kind++) {
+            RollPlayer x = seven();
             x.chest(kind, 2);
             for (int it = 0; it < 7; it++) {
                 boolean fits = takes[kind].indexOf('0' + it) >= 0;
-                Due.refused(x, x.place(kind, 2, it), Due.TORN);
-                Due.refused(x, x.place(kind, -1, it), Due.TORN);
-                Due.refused(x, x.place(kind, Due.MAX, it), Due.TORN);
-                if (fits) Due.is(x, x.place(kind, 1, it), 1, 0);
-                else Due.refused(x, x.place(kind, 1, it), Due.STORE);
+                Due.refused(x, x.place(0, 2, it), Due.TORN);
+                Due.refused(x, x.place(0, -1, it), Due.TORN);
+                Due.refused(x, x.place(0, Due.MAX, it), Due.TORN);
+                if (fits) Due.is(x, x.place(0, 1, it), 1, 0);
+                else Due.refused(x, x.place(0, 1, it), Due.STORE);
             }
-            Due.is(x, x.place(kind, 0, -1), 1, 0);
-            Due.refused(x, x.place(kind, 2, -1), Due.TORN);
+            Due.is(x, x.place(0, 0, -1), 1, 0);
+            Due.refused(x, x.place(0, 2, -1), Due.TORN);
         }
+        RollPlayer x = seven();
+        for (int kind = 0; kind < 8; kind++) x.chest(kind, 2);
         Due.refused(x, x.place(8, 0, 0), Due.BAD);
         Due.refused(x, x.place(-1, 0, 0), Due.BAD);
         Due.refused(x, x.place(0, 0, 7), Due.BAD);
@@ -343,14 +345,15 @@ final class InstrumentsTest {
         int[][] ratios = { { 0, 1 }, { 1, 1 }, { 1, 1000 }, { 1000, 1 }, { 3, 7 }, { 7, 3 }, { 999, 1000 }, { 1, 16 },
             { 3, 16 }, { 5, 16 }, { 1, 3 }, { 355, 113 }, { 17, 19 } };
         for (int kind : new int[] { PIPE, REED, BASS, PLUCKED, BELL }) {
-            RollPlayer x = seven();
             for (int v : bases) {
+                RollPlayer x = seven();
                 for (int[] r : ratios) {
                     x.base(v);
                     x.tune(kind, r[0], r[1]);
                     Due.is(x, x.frequency(kind), Double.doubleToLongBits(due(kind, v / 16.0, r[0], r[1])), 0);
                 }
             }
+            RollPlayer x = seven();
             x.tune(kind, 0, 0);
             Due.is(x, x.frequency(kind), NO_NUMBER, 0);
         }

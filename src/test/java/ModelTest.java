@@ -20,8 +20,12 @@ final class ModelTest {
     private static final String[] STAGE = { "tick", "tick", "tick", "tick", "back", "open", "sounding", "loud", "loud",
         "level", "stop", "at", "at", "times", "event", "count", "trace", "read", "halt", "play", "play", "spoil" };
 
+    // The document promises no more of one object; the last of them are kept for what it tells in the end.
+    private static final int PROMISED = 512, FOR_THE_END = 120;
+
     private final Random random;
     private final boolean wide;
+    private int calls;
     private final RollPlayer real = new RollPlayer();
     private final PlainPlayer plain = new PlainPlayer();
     private final List<String> said = new ArrayList<>();
@@ -36,7 +40,7 @@ final class ModelTest {
         for (Method m : RollPlayer.class.getDeclaredMethods()) {
             if (java.lang.reflect.Modifier.isPublic(m.getModifiers())) METHODS.put(m.getName(), m);
         }
-        int runs = args.length > 0 ? Integer.parseInt(args[0]) : 1500;
+        int runs = args.length > 0 ? Integer.parseInt(args[0]) : 4000;
         for (int seed = 1; seed <= runs; seed++) {
             ModelTest run = new ModelTest(seed, seed % 5 == 0);
             run.go(seed);
@@ -53,26 +57,25 @@ final class ModelTest {
         switch (seed % 4) {
             case 3:
                 crowd();
-                many(STRIPS, 200);
+                many(STRIPS, 120);
                 many(STAGE, 60);
                 break;
             case 0:
-                many(STRIPS, 250);
-                compareAll();
-                many(ORGAN, 60);
-                many(STAGE, 150);
+                many(STRIPS, 150);
+                many(ORGAN, 40);
+                many(STAGE, 100);
                 break;
             case 1:
-                many(ORGAN, 200);
-                many(STRIPS, 60);
-                many(STAGE, 200);
+                many(ORGAN, 120);
+                many(STRIPS, 40);
+                many(STAGE, 120);
                 break;
             default:
                 show();
                 for (int i = 0; i < 6; i++) {
-                    many(STAGE, 50);
-                    many(STRIPS, 8);
-                    many(ORGAN, 8);
+                    many(STAGE, 30);
+                    many(STRIPS, 5);
+                    many(ORGAN, 5);
                 }
         }
         compareAll();
@@ -80,44 +83,44 @@ final class ModelTest {
 
     /** A roll and an organ with which there is something to hear. */
     private void show() throws Exception {
-        call("roll");
-        for (int i = 0; i < 24; i++) call("instrument", i < 16 ? i % 7 : 6);
-        for (int i = 0; i < 40; i++) call("couple", random.nextBoolean() ? 6 : 13 + random.nextInt(11), any(24));
-        for (int i = 0; i < 6; i++) call("chest", 7, 4);
-        for (int i = 0; i < 20; i++) call("place", any(6), any(4), any(24));
-        for (int i = 0; i < 10; i++) call("wire", any(8), any(6), any(5));
-        for (int i = 0; i < 6; i++) call("spoil", any(24), any(6));
-        for (int i = 0; i < 5; i++) call("tune", any(24), any(3), any(3));
+        quietly("roll");
+        for (int i = 0; i < 24; i++) quietly("instrument", i < 16 ? i % 7 : 6);
+        for (int i = 0; i < 40; i++) quietly("couple", random.nextBoolean() ? 6 : 13 + random.nextInt(11), any(24));
+        for (int i = 0; i < 6; i++) quietly("chest", 7, 4);
+        for (int i = 0; i < 20; i++) quietly("place", any(6), any(4), any(24));
+        for (int i = 0; i < 10; i++) quietly("wire", any(8), any(6), any(5));
+        for (int i = 0; i < 6; i++) quietly("spoil", any(24), any(6));
+        for (int i = 0; i < 5; i++) quietly("tune", any(24), any(3), any(3));
         int strips = 3 + any(8);
         boolean slow = any(6) == 0;
         for (int s = 0; s < strips; s++) {
             int kind = random.nextInt(3) > 0 ? 0 : any(4);
             int n = slow ? any(60) : any(12);
-            call("strip", 0, kind, any(3), n, any(4) == 0 ? 0 : any(slow ? 250 : 12));
-            for (int k = 0; k < n; k++) call("punch", 0, s, k, element(kind));
-            if (any(8) == 0) call("damage", 0, s, any(12), any(256));
+            quietly("strip", 0, kind, any(3), n, any(4) == 0 ? 0 : any(slow ? 250 : 12));
+            for (int k = 0; k < n; k++) quietly("punch", 0, s, k, element(kind));
+            if (any(8) == 0) quietly("damage", 0, s, any(12), any(256));
         }
-        call("play", 0);
+        quietly("play", 0);
     }
 
     /** So much that little more has room: of elements or of strips, and of what else there is. */
     private void crowd() throws Exception {
         boolean elements = random.nextBoolean();
         int rolls = 16 + any(5);
-        for (int i = 0; i < rolls; i++) call("roll");
-        for (int i = 0; i < 30; i++) call("strip", i % rolls, any(4), any(3), elements ? 250 + any(7) : 15, any(3));
+        for (int i = 0; i < rolls; i++) quietly("roll");
+        for (int i = 0; i < 30; i++) quietly("strip", i % rolls, any(4), any(3), elements ? 250 + any(7) : 15, any(3));
         for (int i = 0; i < 6 && !elements; i++) {
-            for (int r = 0; r < rolls; r++) call("repeat", r, 0, Math.min(8, plain.rolls.get(r).size()));
+            for (int r = 0; r < rolls; r++) quietly("repeat", r, 0, Math.min(8, plain.rolls.get(r).size()));
         }
-        for (int i = 0; i < 12 && elements; i++) call("lose", any(rolls), 0);
-        for (int i = 0; i < 58; i++) call("instrument", any(7));
-        for (int i = 0; i < 5; i++) call("instrument", 6);
-        for (int i = 0; i < 18; i++) call("chest", any(8), 11 + any(2));
+        for (int i = 0; i < 12 && elements; i++) quietly("lose", any(rolls), 0);
+        for (int i = 0; i < 58; i++) quietly("instrument", any(7));
+        for (int i = 0; i < 5; i++) quietly("instrument", 6);
+        for (int i = 0; i < 18; i++) quietly("chest", any(8), 11 + any(2));
     }
 
     private void many(String[] names, int n) throws Exception {
         if (plain.rolls.isEmpty()) call("roll");
-        for (int i = 0; i < n && wrong == 0; i++) {
+        for (int i = 0; i < n && wrong == 0 && calls < PROMISED - FOR_THE_END; i++) {
             String name = names[random.nextInt(names.length)];
             if (names == STAGE && any(20) == 0) name = STRIPS[random.nextInt(STRIPS.length)];
             if (names == STAGE && any(30) == 0) name = ORGAN[random.nextInt(ORGAN.length)];
@@ -125,58 +128,79 @@ final class ModelTest {
             if (name.equals("roll") && any(wide ? 2 : 6) > 0) continue;
             if (name.equals("halt") && any(4) > 0) continue;
             call(name, arguments(name));
-            if (any(12) == 0) call("status");
-            if (any(60) == 0) compareAll();
         }
-        if (names == STAGE && plain.played != null) call("halt");
+        if (names == STAGE && plain.played != null && any(3) > 0) call("halt");
     }
 
+    /** A call, and as a rule, with a refusal always, what status() tells of it. */
     private void call(String name, int... a) throws Exception {
-        if (wrong > 0) return;
+        long got = quietly(name, a);
+        if (wrong > 0 || calls >= PROMISED || (got >= 0 && any(3) > 0)) return;
+        calls++;
+        int status = real.status();
+        if (status == plain.status) return;
+        wrong++;
+        said.add("  its status is " + status + ", due is " + plain.status);
+    }
+
+    private long quietly(String name, int... a) throws Exception {
+        if (wrong > 0 || calls >= PROMISED) return 0;
+        calls++;
         Object[] boxed = new Object[a.length];
         StringBuilder text = new StringBuilder(name).append('(');
         for (int i = 0; i < a.length; i++) {
             boxed[i] = a[i];
             text.append(i == 0 ? "" : ", ").append(a[i]);
         }
-        text.append(')');
         long got = ((Number) METHODS.get(name).invoke(real, boxed)).longValue();
         long due = plain.call(name, a);
-        said.add(text + " " + got);
-        int status = real.status();
-        if (got != due || status != plain.status) {
+        said.add(text + ") " + got);
+        if (got != due) {
             wrong++;
-            said.add("  due is " + due + ", status " + plain.status + " and not " + status);
+            said.add("  due is " + due);
         }
+        return got;
     }
 
+    /** All that is told, as far as there are calls left: each run begins with another part of it. */
     private void compareAll() throws Exception {
-        for (int r = 0; r < plain.rolls.size(); r++) {
-            call("digest", r);
-            call("whole", r);
-            call("strips", r);
+        int first = random.nextInt(5);
+        for (int part = 0; part < 5; part++) compare((first + part) % 5);
+    }
+
+    private void compare(int part) throws Exception {
+        switch (part) {
+            case 0:
+                for (int r = 0; r < plain.rolls.size(); r++) quietly("digest", r);
+                for (int r = 0; r < plain.rolls.size(); r++) quietly("whole", r);
+                for (int r = 0; r < plain.rolls.size(); r++) quietly("strips", r);
+                break;
+            case 1:
+                for (int i = 0; i < plain.instruments.size(); i++) quietly("times", i, any(2));
+                for (int i = 0; i < 17; i++) quietly("trace", i);
+                break;
+            case 2:
+                for (int k = 0; k < Math.min(plain.now.sounds.size() + 1, 25); k++) {
+                    for (int what = 0; what < 3; what++) quietly("sounding", k, what);
+                    quietly("loud", k);
+                }
+                break;
+            case 3:
+                int events = plain.now.events.size();
+                for (int k = events; k >= Math.max(0, events - 25); k--) {
+                    for (int what = 0; what < 4; what++) quietly("event", k, what);
+                }
+                break;
+            default:
+                for (int i = 0; i < 8; i++) {
+                    quietly("level", i);
+                    quietly("open", i);
+                    quietly("count", i);
+                    quietly("at", i);
+                }
+                for (int i = 0; i < 16; i++) quietly("stop", i);
+                quietly("at", 8);
         }
-        for (int i = 0; i < plain.instruments.size(); i++) {
-            call("times", i, 0);
-            call("times", i, 1);
-        }
-        for (int k = 0; k < Math.min(plain.now.sounds.size() + 1, 50); k++) {
-            for (int what = 0; what < 3; what++) call("sounding", k, what);
-            call("loud", k);
-        }
-        int events = plain.now.events.size();
-        for (int k = Math.max(0, events - 40); k <= events; k++) {
-            for (int what = 0; what < 4; what++) call("event", k, what);
-        }
-        for (int i = 0; i < 8; i++) {
-            call("level", i);
-            call("open", i);
-            call("count", i);
-            call("at", i);
-        }
-        for (int i = 0; i < 16; i++) call("stop", i);
-        for (int i = 0; i < 17; i++) call("trace", i);
-        call("at", 8);
     }
 
     private int any(int n) {

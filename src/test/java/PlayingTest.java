@@ -613,7 +613,8 @@ final class PlayingTest {
         Due.is(x.at(8), 500 + 501 + 2 + 1000 + 500);
     }
 
-    private static void promise30Everything() {
+    /** Much that changes, tick by tick, 22 ticks long. */
+    private static RollPlayer busyRoll() {
         RollPlayer x = organ();
         x.couple(COUPLER, PLUCKED);
         x.couple(COUPLER, BELL);
@@ -625,23 +626,35 @@ final class PlayingTest {
         strip(x, TEMPO, 9, 3 << 16 | 3, 0, 9, 0, 3 << 16 | 1);
         x.lose(0, x.strip(0, HOLES, 1, 1, 2));
         strip(x, HOLES, 2, 0xff);
-        String[] then = new String[30];
         x.play(0);
-        then[0] = dump(x);
-        for (int i = 1; i <= 22; i++) {
-            Due.is(x.tick(1), 1);
+        return x;
+    }
+
+    private static void promise30Everything() {
+        String[] then = new String[23];
+        for (int i = 0; i <= 22; i++) {
+            RollPlayer x = busyRoll();
+            Due.is(x.tick(i), i);
             then[i] = dump(x);
         }
         for (int from = 22; from > 0; from -= 3) {
-            for (int n = 1; n <= from; n += 4) {
+            for (int n = 1; n <= from; n += 2) {
+                RollPlayer x = busyRoll();
+                x.tick(from);
                 Due.is(x.back(n), from - n);
                 Due.isTrue(dump(x).equals(then[from - n]), "not as it was at " + (from - n));
-                for (int i = from - n + 1; i <= from; i++) {
-                    Due.is(x.tick(1), 1);
-                    Due.isTrue(dump(x).equals(then[i]), "not as it was at " + i + " the second time");
-                }
+                // And from there on as it went the first time.
+                RollPlayer y = busyRoll();
+                y.tick(from);
+                y.back(n);
+                Due.is(y.tick(n), n);
+                Due.isTrue(dump(y).equals(then[from]), "not as it was at " + from + " the second time");
             }
-            x.back(Math.min(3, from));
+        }
+        RollPlayer x = busyRoll();
+        for (int i = 0; i < 10; i++) {
+            x.tick(22);
+            x.back(22);
         }
         x.halt();
         // Back at the beginning it is to spoil as it was then.
@@ -657,10 +670,12 @@ final class PlayingTest {
         for (int i = 0; i < 8; i++) s.append(x.at(i)).append(' ').append(x.level(i)).append(' ').append(x.open(i)).append(' ');
         for (int i = 0; i < 16; i++) s.append(x.stop(i)).append(' ');
         for (int i = 0; i < 7; i++) s.append(x.times(i, 0)).append(' ').append(x.times(i, 1)).append(' ');
-        for (int k = 0; k <= x.count(4); k++) {
+        int sounds = x.count(4);
+        for (int k = 0; k <= sounds; k++) {
             for (int w = 0; w < 3; w++) s.append(x.sounding(k, w)).append(' ');
         }
-        for (int k = 0; k <= x.count(3); k++) {
+        int events = x.count(3);
+        for (int k = 0; k <= events; k++) {
             for (int w = 0; w < 4; w++) s.append(x.event(k, w)).append(' ');
         }
         return s.toString();
@@ -700,39 +715,43 @@ final class PlayingTest {
     }
 
     private static void promise33() {
-        RollPlayer x = organ();
+        RollPlayer x = loudRoll();
         Due.refused(x, x.loud(-1), Due.BAD);
         Due.refused(x, x.loud(0), Due.NONE);
+        x.play(0);
+        x.tick(1);
+        sounds(x, PIPE, REED, BASS, DRUM, PLUCKED, BELL, COUPLER, BELL);
+        Due.refused(x, x.loud(8), Due.NONE);
+        Due.refused(x, x.loud(Due.MAX), Due.NONE);
+        Due.refused(x, x.loud(Due.MIN), Due.BAD);
+        // 14 stops are drawn: the air is 17. The coupler's bell has the level of its track.
+        int[][] bodies = { { 0, 6, 8 }, { 0, 1, 6, 8, 9 }, { 0, 1, 6, 7, 8, 9, 10 }, { 2 }, { 3, 11 }, { 3, 4, 11, 12 },
+            { 5, 11, 12, 13 }, { 3, 4, 11, 12 } };
+        louder(loudRoll(), 1, new int[] { 1017, 124, 1041, 0, 17, 23, 0, 1001 }, bodies);
+        louder(loudRoll(), 4, new int[] { 1017, 124, 1041, 0, 2, 18, 0, 996 }, bodies);
+        louder(loudRoll(), 7, new int[] { 1017, 124, 1041, 0, 0, 18, 0, 996 }, bodies);
+
+        // Mute ones: their frequency is asked for, their loud is not.
+        RollPlayer mute = loudRoll();
+        for (int kind = 0; kind < 6; kind++) mute.tune(kind, 0, 0);
+        int[][] asked = { { 8 }, { 8, 9 }, { 8, 9, 10 }, { 2 }, { 11 }, { 11, 12 }, { 11, 12, 13 }, { 11, 12 } };
+        louder(mute, 1, new int[8], asked);
+    }
+
+    private static RollPlayer loudRoll() {
+        RollPlayer x = organ();
         strip(x, STOPS, 0, 'b', 'p', 'q', '@', 'Q', '`');
         strip(x, LEVELS, 0, 1 << 12 | 100, 4 << 12 | 22, 5 << 12 | 22);
         strip(x, HOLES, 9, 0x7f);
         x.couple(COUPLER, BELL);
         x.spoil(PIPE, 9);
-        x.play(0);
-        x.tick(1);
-        sounds(x, PIPE, REED, BASS, DRUM, PLUCKED, BELL, COUPLER, BELL);
-        // 14 stops are drawn: the air is 17. The coupler's bell has the level of its track.
-        int[] due = { 1017, 124, 1041, 0, 17, 23, 0, 1001 };
-        int[][] bodies = { { 0, 6, 8 }, { 0, 1, 6, 8, 9 }, { 0, 1, 6, 7, 8, 9, 10 }, { 2 }, { 3, 11 }, { 3, 4, 11, 12 },
-            { 5, 11, 12, 13 }, { 3, 4, 11, 12 } };
-        for (int k = 0; k < 8; k++) louder(x, k, due[k], bodies[k]);
-        x.tick(3);
-        due = new int[] { 1017, 124, 1041, 0, 2, 18, 0, 996 };
-        for (int k = 0; k < 8; k++) louder(x, k, due[k], bodies[k]);
-        x.tick(3);
-        due = new int[] { 1017, 124, 1041, 0, 0, 18, 0, 996 };
-        for (int k = 0; k < 8; k++) louder(x, k, due[k], bodies[k]);
-        Due.refused(x, x.loud(8), Due.NONE);
-        Due.refused(x, x.loud(Due.MAX), Due.NONE);
-        Due.refused(x, x.loud(Due.MIN), Due.BAD);
-        x.halt();
+        return x;
+    }
 
-        // Mute ones: their frequency is asked for, their loud is not.
-        for (int kind = 0; kind < 6; kind++) x.tune(kind, 0, 0);
-        int[][] asked = { { 8 }, { 8, 9 }, { 8, 9, 10 }, { 2 }, { 11 }, { 11, 12 }, { 11, 12, 13 }, { 11, 12 } };
+    private static void louder(RollPlayer x, int ticks, int[] due, int[][] bodies) {
         x.play(0);
-        x.tick(1);
-        for (int k = 0; k < 8; k++) louder(x, k, 0, asked[k]);
+        x.tick(ticks);
+        for (int k = 0; k < 8; k++) louder(x, k, due[k], bodies[k]);
     }
 
     private static void louder(RollPlayer x, int k, int due, int[] bodies) {
@@ -890,10 +909,11 @@ final class PlayingTest {
         Due.refused(x, x.event(-1, 0), Due.BAD);
         Due.refused(x, x.event(0, 4), Due.BAD);
         Due.refused(x, x.event(0, -1), Due.BAD);
-        int[] beats = new int[256];
-        for (int k = 0; k < 256; k++) beats[k] = k % 2 == 0 ? 0x2d : 0;
-        strip(x, HOLES, 250, beats);
-        strip(x, HOLES, 250, beats);
+        x.strip(0, HOLES, 1, 256, 250);
+        x.punch(0, 0, 0, 0x2d);
+        for (int n = 2; n < 256; n *= 2) x.copy(0, 0, 0, n, 0, 0, n);
+        x.seal(0, 0);
+        x.repeat(0, 0, 1);
         x.play(0);
         x.tick(373);
         // One for each of two strips, four for each tick.

@@ -94,7 +94,9 @@ final class StripsTest {
             Due.is(x.head(0, kind, 0), kind);
             Due.is(x.head(0, kind, 1), 30000);
             Due.is(x.head(0, kind, 2), 256);
-            Due.is(x.head(0, kind, 3), sumOf(x, kind));
+            int sum = ((((31 + kind) * 31 + (30000 >> 8)) * 31 + (byte) 30000) * 31 + 1) * 31;
+            for (int i = 0; i < 256 * width(kind); i++) sum *= 31;
+            Due.is(x.head(0, kind, 3), sum);
             Due.is(x.byteOf(0, kind, 1), 30000 >> 8);
             Due.is(x.byteOf(0, kind, 2), 30000 & 255);
             Due.is(x.byteOf(0, kind, 3), 1);
