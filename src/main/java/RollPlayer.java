@@ -1238,7 +1238,7 @@ public final class RollPlayer {
             now[AT_HAND] = place;
             now[OVER] = 0;
             now[WHOLE] = finding == 0 ? 1 : 0;
-            record(BEGAN, place, finding);
+            addEvent(BEGAN, place, finding);
             if (finding != 0) silence(organ);
         }
 
@@ -1269,7 +1269,7 @@ public final class RollPlayer {
                     endLatest(0, track, organ);
                 } else {
                     int finding = openByHole(track, organ);
-                    if (finding != 0) record(FAILED, track, finding);
+                    if (finding != 0) addEvent(FAILED, track, finding);
                 }
             }
         }
@@ -1352,7 +1352,7 @@ public final class RollPlayer {
             now[place + SINCE] = now[GONE];
             now[SOUNDING]++;
             now[OPENED + number]++;
-            record(WAS_OPENED, number, track);
+            addEvent(WAS_OPENED, number, track);
         }
 
         /** ENDS those from first on that came by a TRACK (or by any), the latest first. */
@@ -1362,13 +1362,13 @@ public final class RollPlayer {
                 if (track != ANY_TRACK && now[place + BY_TRACK] != track) continue;
                 organ.bodies[Organ.END_ANY]++;
                 now[ENDED + now[place + WHO]]++;
-                record(WAS_ENDED, now[place + WHO], now[place + BY_TRACK]);
+                addEvent(WAS_ENDED, now[place + WHO], now[place + BY_TRACK]);
                 now[SOUNDING]--;
                 System.arraycopy(now, place + A_SOUND, now, place, A_SOUND * (now[SOUNDING] - k));
             }
         }
 
-        private void record(int sort, int of, int rest) {
+        private void addEvent(int sort, int of, int rest) {
             if (now[EVENTS] < MOST_EVENTS) {
                 int place = AN_EVENT * now[EVENTS];
                 events[place] = sort;
